@@ -16,6 +16,7 @@ public final class ActsTest {
         lids();
         undone();
         thirteenActs();
+        twentyActs();
         refusedIsNoAct();
         Check.end("ActsTest");
     }
@@ -229,6 +230,29 @@ public final class ActsTest {
         Check.due("LIDS", echoes.about(4), 0);
         Check.due("an ACT anew", echoes.lid(0), 1);
         Check.due("ACTS", echoes.about(7), 1);
+    }
+
+    private static void twentyActs() {
+        WellEchoes echoes = Check.land("LW10W10S0090");
+        List<String> states = new ArrayList<>();
+        for (int act = 0; act < 20; act++) {
+            states.add(withoutCount(echoes));
+            if (act % 3 == 0) {
+                echoes.year();
+            } else {
+                echoes.lid(act % 2);
+            }
+        }
+        for (int left = 11; left >= 0; left--) {
+            Check.due("undo", echoes.undo(), left);
+            Check.that("as it was ahead of act " + (8 + left), states.get(8 + left).equals(withoutCount(echoes)));
+        }
+        Check.still(echoes, "eight are forgotten", echoes::undo, WellEchoes.LATE);
+    }
+
+    /** When the row is full, the number of ACTS is not what it was. */
+    private static String withoutCount(WellEchoes echoes) {
+        return echoes.about(2) + " " + echoes.about(3) + " " + Check.state(echoes).replaceAll(".*wells", "");
     }
 
     private static void refusedIsNoAct() {

@@ -37,6 +37,10 @@ public final class PlansTest {
         plan(Check.land("LW11W11S0090"), 1, 1, 0);
         plan(Check.land("LW11W11S0080"), 1, 0, 0);
         plan(Check.land("LW11W10S0080"), 1, 1, 2);
+        plan(Check.land("LW10S0040"), 1, 0, 0);
+        plan(Check.land("LW10S0050"), 1, 1, 0);
+        plan(Check.land("LW10W10S0040S1140"), 1, 0, 0);
+        plan(Check.land("LW10W10S0090S0091S0092S1043"), 1, 2, 8);
     }
 
     private static void planForTwoYears() {
@@ -49,6 +53,8 @@ public final class PlansTest {
         plan(Check.land("LW10W10S0010S1011"), 2, 1, 2);
         plan(Check.land("LW10W11S0020"), 2, 1, 2);
         plan(Check.land("LW11W11S0020"), 2, 0, 0);
+        plan(Check.land("LW10S0050"), 2, 0, 0);
+        plan(Check.land("LW10S0060"), 2, 1, 0);
         plan(Check.land("LW10W11S0120"), 2, 1, 1);
         plan(Check.land("LW10W11S0130"), 2, 1, 0);
     }
@@ -104,6 +110,9 @@ public final class PlansTest {
         bestLid(rough, 1, 0);
         bestLid(rough, 2, 1);
         bestLid(new WellEchoes(), 1, WellEchoes.NONE);
+        WellEchoes empty = Check.land("LW10W10S1110");
+        empty.lid(0);
+        bestLid(empty, 1, 1);
     }
 
     private static void bestLidRefused() {

@@ -61,6 +61,12 @@ public final class RainsTest {
         echoes.lid(2);
         rain(echoes, 0, 3, 91, 100);
         rain(echoes, 1, 10, 1, 1);
+        WellEchoes first = Check.land("LW10W10S0040S0130");
+        rain(first, 0, 10, 1, 1);
+        first.year();
+        rain(first, 0, 5, 3, 4);
+        first.lid(0);
+        rain(first, 0, 10, 1, 1);
     }
 
     private static void rainRefused() {
