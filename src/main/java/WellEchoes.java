@@ -92,17 +92,19 @@ public final class WellEchoes {
         now.clear();
         acts.count = 0;
         slotsKept = 0;
-        for (int place = 1; place < text.length; place += 1 + Text.digitsOf(text.letterAt(place))) {
+        for (int place = 1; place < text.length; place++) {
             tellPart(place);
         }
         lawsOfLand = now.lawsHad();
         return 10 * wells.count + now.count;
     }
 
+    /** In a text without a FAULT, W and S stand where PARTS begin and nowhere else. */
     private void tellPart(int place) {
-        if (text.letterAt(place) == 'W') {
+        int letter = text.letterAt(place);
+        if (letter == 'W') {
             wells.add(text.digitAt(place + 1), text.digitAt(place + 2));
-        } else {
+        } else if (letter == 'S') {
             now.add(text.digitAt(place + 1), text.digitAt(place + 2), text.digitAt(place + 3),
                     text.digitAt(place + 4), 0);
         }
@@ -369,11 +371,19 @@ public final class WellEchoes {
     /** Every set of the one kind together with every set of the other kind. */
     private static long joined(long some, long others) {
         long sets = 0L;
-        for (int a = 0; a < 1 << LAWS; a++) {
-            for (int b = 0; (some >>> a & 1L) == 1L && b < 1 << LAWS; b++) {
-                if ((others >>> b & 1L) == 1L) {
-                    sets |= 1L << (a | b);
-                }
+        for (int set = 0; set < 1 << LAWS; set++) {
+            if ((some >>> set & 1L) == 1L) {
+                sets |= joinedWithEach(set, others);
+            }
+        }
+        return sets;
+    }
+
+    private static long joinedWithEach(int set, long others) {
+        long sets = 0L;
+        for (int other = 0; other < 1 << LAWS; other++) {
+            if ((others >>> other & 1L) == 1L) {
+                sets |= 1L << (set | other);
             }
         }
         return sets;
@@ -691,7 +701,8 @@ public final class WellEchoes {
         }
 
         void take(Songs other) {
-            for (int cell = 0; cell < cells.length && cell < other.cells.length; cell++) {
+            int used = Math.min(other.count * SONG_PARTS, Math.min(cells.length, other.cells.length));
+            for (int cell = 0; cell < used; cell++) {
                 cells[cell] = other.cells[cell];
             }
             count = other.count;

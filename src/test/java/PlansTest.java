@@ -133,6 +133,7 @@ public final class PlansTest {
         lamps(new WellEchoes(), 0);
         lamps(Check.land("LW90"), 0);
         lamps(Check.land("LW90S0010S1012"), 1);
+        lamps(Check.land("LW90S0020S1032"), 1);
         lamps(Check.land("LW90W90S0010S1112"), 2);
         lamps(Check.land("LW90W90S0010S1112S1013"), 1);
         lamps(Check.land("LW90W90W90S0010S1011S1110S2111S0210S2211"), 2);
@@ -186,6 +187,7 @@ public final class PlansTest {
         mostPitch(echoes, 0, WellEchoes.NONE);
         echoes.sing(0, 1, 9, 1);
         mostPitch(echoes, 0, 1);
+        mostPitch(Check.land("LW90S0010S1013"), 0, 0);
         WellEchoes three = Check.land("LW90S0010S0011S0012S0012");
         mostPitch(three, 0, 2);
         for (int law : FAR) {
