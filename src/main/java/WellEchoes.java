@@ -200,8 +200,8 @@ public final class WellEchoes {
         int bits = 0;
         for (int song = 0; song < now.count; song++) {
             int way = Math.abs(Math.min(now.get(song, AGE), depth) - lamp);
-            boolean kept = !noon || now.get(song, PITCH) < LOWEST_NOON_UNHEARD;
-            if (now.get(song, WELL) == well && kept && now.get(song, LOUD) > way) {
+            boolean sounds = !noon || now.get(song, PITCH) < LOWEST_NOON_UNHEARD;
+            if (now.get(song, WELL) == well && sounds && now.get(song, LOUD) > way) {
                 bits |= 1 << song;
             }
         }
