@@ -150,6 +150,14 @@ public final class PlansTest {
     }
 
     private static void lampsAtTwoDepths() {
+        WellEchoes deep = Check.land("LW90S0010");
+        deep.lid(0);
+        for (int year = 0; year < 9; year++) {
+            deep.year();
+        }
+        deep.lid(0);
+        lamps(deep, 1);
+        Check.due("heard at the lowest alone", deep.heard(0, 9, false) * 10 + deep.heard(0, 8, false), 10);
         WellEchoes echoes = Check.land("LW90W90S0060S1193");
         for (int year = 0; year < 5; year++) {
             echoes.year();
