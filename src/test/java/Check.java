@@ -4,8 +4,14 @@ import java.util.function.LongSupplier;
 final class Check {
     private static int asked = 0;
     private static int wrong = 0;
+    private static String test = "";
 
     private Check() {
+    }
+
+    /** What is asked from now on is told under this name. */
+    static void begin(String name) {
+        test = name + ": ";
     }
 
     static WellEchoes written(String text) {
@@ -35,7 +41,7 @@ final class Check {
         asked++;
         if (got != want) {
             wrong++;
-            System.out.println(call + " answered " + got + ", due is " + want);
+            System.out.println(test + call + " answered " + got + ", due is " + want);
         }
     }
 
@@ -78,8 +84,8 @@ final class Check {
         that(call + " changes nothing: " + before + " / " + after, before.equals(after));
     }
 
-    static void end(String test) {
-        System.out.println(test + ": " + asked + " answers, " + wrong + " not as due");
+    static void end(String name) {
+        System.out.println(name + ": " + asked + " answers, " + wrong + " not as due");
         if (wrong != 0) {
             System.exit(1);
         }
