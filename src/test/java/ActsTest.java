@@ -1,6 +1,3 @@
-import java.util.ArrayList;
-import java.util.List;
-
 /** Promises 9 to 12: years, songs sung on, lids, and all of it undone. */
 public final class ActsTest {
     public static void main(String[] args) {
@@ -14,9 +11,7 @@ public final class ActsTest {
         singRefused();
         singRefusedInOrder();
         lids();
-        undone();
         thirteenActs();
-        twentyActs();
         refusedIsNoAct();
         Check.end("ActsTest");
     }
@@ -193,27 +188,7 @@ public final class ActsTest {
         Check.still(none, "lid of no land", () -> none.lid(0), WellEchoes.UNKNOWN);
     }
 
-    /** Promise 12. */
-    private static void undone() {
-        WellEchoes echoes = Check.land("LW12W11S0093S1131S2090");
-        List<String> states = new ArrayList<>();
-        for (int act = 0; act < 12; act++) {
-            states.add(Check.state(echoes));
-            if (act % 4 == 0) {
-                echoes.sing(echoes.about(1) - 1, echoes.song(echoes.about(1) - 1, 1) == 0 ? 1 : 0, 9, act / 4);
-            } else if (act % 4 == 2) {
-                echoes.year();
-            } else {
-                echoes.lid(0);
-            }
-        }
-        for (int left = 11; left >= 0; left--) {
-            Check.due("undo", echoes.undo(), left);
-            Check.that("as it was ahead of act " + left, states.get(left).equals(Check.state(echoes)));
-        }
-        Check.still(echoes, "nothing to undo", echoes::undo, WellEchoes.LATE);
-    }
-
+    /** Promise 12; Promise12UndoTest has what is undone. */
     private static void thirteenActs() {
         WellEchoes echoes = Check.land("LW10S0090");
         echoes.year();
@@ -230,29 +205,6 @@ public final class ActsTest {
         Check.due("LIDS", echoes.about(4), 0);
         Check.due("an ACT anew", echoes.lid(0), 1);
         Check.due("ACTS", echoes.about(7), 1);
-    }
-
-    private static void twentyActs() {
-        WellEchoes echoes = Check.land("LW10W10S0090");
-        List<String> states = new ArrayList<>();
-        for (int act = 0; act < 20; act++) {
-            states.add(withoutCount(echoes));
-            if (act % 3 == 0) {
-                echoes.year();
-            } else {
-                echoes.lid(act % 2);
-            }
-        }
-        for (int left = 11; left >= 0; left--) {
-            Check.due("undo", echoes.undo(), left);
-            Check.that("as it was ahead of act " + (8 + left), states.get(8 + left).equals(withoutCount(echoes)));
-        }
-        Check.still(echoes, "eight are forgotten", echoes::undo, WellEchoes.LATE);
-    }
-
-    /** When the row is full, the number of ACTS is not what it was. */
-    private static String withoutCount(WellEchoes echoes) {
-        return echoes.about(2) + " " + echoes.about(3) + " " + Check.state(echoes).replaceAll(".*wells", "");
     }
 
     private static void refusedIsNoAct() {

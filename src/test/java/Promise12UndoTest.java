@@ -1,5 +1,3 @@
-import java.util.ArrayList;
-import java.util.List;
 import java.util.function.Consumer;
 
 /** Promise 12, undo: ACTS are a row, 12 at most; the last one can be undone. */
@@ -79,24 +77,31 @@ public final class Promise12UndoTest {
         }
     }
 
-    /** Of so many ACTS the last 12 can be undone, one by one, and no more. */
-    private static void undoneOf(int acts) {
+    private static WellEchoes behind(int acts) {
         WellEchoes echoes = Check.land("LW90W91W52S0092S1193");
-        List<String> ahead = new ArrayList<>();
         for (int act = 0; act < acts; act++) {
-            ahead.add(withoutActs(echoes));
             act(echoes, act);
         }
+        return echoes;
+    }
+
+    /** Of so many ACTS the last 12 can be undone, one by one, and no more. */
+    private static void undoneOf(int acts) {
         int most = Math.min(acts, 12);
-        Check.due("ACTS of " + acts, echoes.about(7), most);
-        for (int left = most - 1; left >= 0; left--) {
-            Check.due("undo of " + acts, echoes.undo(), left);
-            Check.due("ACTS", echoes.about(7), left);
-            Check.that(acts + " acts, as it was ahead of act " + (acts - most + left),
-                    withoutActs(echoes).equals(ahead.get(acts - most + left)));
+        for (int undone = 0; undone <= most; undone++) {
+            WellEchoes echoes = behind(acts);
+            Check.due("ACTS of " + acts, echoes.about(7), most);
+            for (int left = most - 1; left >= most - undone; left--) {
+                Check.due("undo of " + acts, echoes.undo(), left);
+                Check.due("ACTS", echoes.about(7), left);
+            }
+            if (undone == most) {
+                Check.due("no more of " + acts, echoes.undo(), WellEchoes.LATE);
+                Check.due("ACTS", echoes.about(7), 0);
+            }
+            Check.that(undone + " of " + acts + " undone",
+                    withoutActs(echoes).equals(withoutActs(behind(acts - undone))));
         }
-        Check.due("no more of " + acts, echoes.undo(), WellEchoes.LATE);
-        Check.that("nothing is changed by it", withoutActs(echoes).equals(ahead.get(acts - most)));
     }
 
     private static String withoutActs(WellEchoes echoes) {
