@@ -103,9 +103,14 @@ final class Edge {
 
     /** Runs the tests of one promise: the methods that are named after it. */
     static void run(Class<?> tests) {
+        run(tests, "promise");
+    }
+
+    /** Runs the methods whose names begin so, by their names' order. */
+    static void run(Class<?> tests, String begin) {
         List<Method> methods = new ArrayList<>();
         for (Method method : tests.getDeclaredMethods()) {
-            if (method.getName().startsWith("promise")) {
+            if (method.getName().startsWith(begin)) {
                 methods.add(method);
             }
         }

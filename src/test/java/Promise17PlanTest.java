@@ -127,6 +127,28 @@ public final class Promise17PlanTest {
         plan(own, 2, 0, 0);
     }
 
+    /** What was SUNG ON ahead of the first YEAR can be SUNG ON ahead of the second one, from WELL to WELL. */
+    static void promise17OnFromWellToWell() {
+        plan("LW12W12W10S0040", 1, 0, 0);
+        plan("LW12W12W10S0040", 2, 1, 2);
+        plan("LW10W12W12S0240", 2, 1, 1);
+        plan("LW12W12W12S0040", 2, 0, 0);
+    }
+
+    /** Eight: the first one is gone by the first YEAR, and the second one, moved up, is SUNG ON then. */
+    static void promise17BySongsAsTheyLieThen() {
+        WellEchoes echoes = Check.land("LW10W10S1010S0041S1190S2192S3193");
+        echoes.sing(2, 0, 9, 0);
+        echoes.sing(3, 0, 9, 2);
+        echoes.sing(4, 0, 9, 3);
+        Check.due("eight", echoes.about(1), 8);
+        plan(echoes, 1, 3, 0);
+        plan(echoes, 2, 4, 0);
+        echoes.year();
+        Check.due("moved up", echoes.song(0, 0), 0);
+        plan(echoes, 1, 4, 2);
+    }
+
     /** The seventh SONG is the last that can be SUNG ON: both of its numbers. */
     static void promise17TheLastSong() {
         WellEchoes greater = Check.land("LW12W10W10S0040S1191S2291S3292S4293S5193");

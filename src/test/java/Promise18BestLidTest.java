@@ -70,6 +70,42 @@ public final class Promise18BestLidTest {
         Check.due("that one", echoes.bestLid(1), 2);
     }
 
+    /** Held against LIDS as they are: what they keep is had without one more. */
+    static void promise18WithoutItLidsAreAsTheyAre() {
+        WellEchoes echoes = Check.land("LW10W10W10S0010S1210");
+        echoes.lid(0);
+        Check.due("the other one, too", echoes.bestLid(1), 2);
+        echoes.lid(2);
+        Check.due("all are kept", echoes.bestLid(1), WellEchoes.NONE);
+        Check.due("all are kept", echoes.bestLid(9), WellEchoes.NONE);
+        WellEchoes empty = Check.land("LW10W10S0010");
+        empty.lid(0);
+        Check.due("an empty WELL", empty.bestLid(1), WellEchoes.NONE);
+    }
+
+    /** SONGS as they are, however many YEARS have gone by. */
+    static void promise18AsTheyAreNow() {
+        WellEchoes echoes = Check.land("LW10W10W10W10S0090S1191S2292S3393");
+        for (int year = 1; year <= 8; year++) {
+            echoes.year();
+            Check.due("not yet gone", echoes.bestLid(1), year < 8 ? WellEchoes.NONE : 0);
+            Check.due("by 9 YEARS", echoes.bestLid(9), 0);
+        }
+    }
+
+    /** By a LID three of one PITCH stay a YEAR longer and wear the fourth; it is not taken off. */
+    static void promise18ALidMayCostALaw() {
+        WellEchoes echoes = Check.land("LW10W10S0040S0040S0040S1060");
+        Check.due("lost without it", echoes.lost(2), 1);
+        Check.due("bestLid", echoes.bestLid(2), WellEchoes.NONE);
+        echoes.lid(0);
+        Check.due("lost by it", echoes.lost(2), 3);
+        Check.due("bestLid", echoes.bestLid(2), WellEchoes.NONE);
+        Check.due("of three YEARS", echoes.bestLid(3), WellEchoes.NONE);
+        WellEchoes both = Check.land("LW10W10S0040S0040S0040S1060S2120");
+        Check.due("the other WELL", both.bestLid(2), 1);
+    }
+
     /** Also when nothing is had behind the YEARS, by no LID. */
     static void promise18NoLawIsHadWhateverIsLidded() {
         WellEchoes echoes = Check.land("LW12W12S0010S1110");

@@ -48,6 +48,13 @@ public final class Promise19LampsTest {
         lamps("LW10W10W10W10S0010S0110S0210S0310", 1);
     }
 
+    /** The LAMP that tells most, or as many as any, may not be of the fewest, first or last. */
+    static void promise19NotOneByOne() {
+        lamps("LW90W90W90S0010S1011S0110S2111S1210S3211", 2);
+        lamps("LW90W90W90S3010S4011S2110S5111S4210S5211", 2);
+        lamps("LW90W90W90S3010S4011S4110S5111S2210S5211", 2);
+    }
+
     /** The WELL whose LAWS are the last ones is none of the fewest. */
     static void promise19TheLastWellIsNotNeeded() {
         lamps("LW90W90W90S5010S2011S5110S0111S2210S3211", 2);

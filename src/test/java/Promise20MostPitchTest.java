@@ -70,6 +70,18 @@ public final class Promise20MostPitchTest {
         most("LW10W10W10W10S5012S5112S5213S5313S5011S5313", 5, 3);
     }
 
+    /** A LID hides none of them, and how loud they are is nothing. */
+    static void promise20UnderLidsToo() {
+        WellEchoes echoes = Check.land("LW10W10S0013S0111S0192S0110S0013");
+        for (int well : new int[] {0, 1, 0, 1}) {
+            Check.due("mostPitch", echoes.mostPitch(0), 3);
+            echoes.lid(well);
+        }
+        WellEchoes even = Check.land("LW10W10S0013S0192");
+        even.lid(0);
+        Check.due("one of two under a LID", even.mostPitch(0), WellEchoes.NONE);
+    }
+
     static void promise20OfEightCopies() {
         WellEchoes echoes = Check.land("LW10W10S0090S0091S0092S0093S0190S0191");
         Check.due("of six", echoes.mostPitch(0), WellEchoes.NONE);

@@ -49,6 +49,22 @@ public final class Promise21TruestTest {
         Check.due("undone", echoes.truest(0), 0);
     }
 
+    /** A LID hides none of them, and how loud, how old they are is nothing. */
+    static void promise21UnderLidsToo() {
+        WellEchoes echoes = Check.land("LW10W10S0010S0191S0192");
+        echoes.lid(0);
+        Check.due("the first one", echoes.truest(0), 0);
+        echoes.lid(1);
+        Check.due("the first one", echoes.truest(0), 0);
+        WellEchoes slips = Check.land("LW12W10S0090S1190");
+        slips.sing(0, 1, 9, 1);
+        slips.lid(0);
+        for (int year = 0; year < 3; year++) {
+            Check.due("the old one", slips.truest(0), 0);
+            slips.year();
+        }
+    }
+
     /** 9 SLIPS are as many as 9. */
     static void promise21MostSlips() {
         WellEchoes echoes = Check.land("LW12W12S0090");

@@ -56,6 +56,23 @@ public final class Promise22BackTest {
         }
     }
 
+    /** By the LID of that WELL alone, and by its STONE. */
+    static void promise22EachWellByItsOwn() {
+        for (int lids = 0; lids < 16; lids++) {
+            WellEchoes echoes = Check.land("LW10W91W52W10");
+            int[] stones = {0, 1, 2, 0};
+            for (int well = 0; well < 4; well++) {
+                if ((lids >> well & 1) == 1) {
+                    echoes.lid(well);
+                }
+            }
+            for (int well = 0; well < 4; well++) {
+                int wear = stones[well] + 1 - (lids >> well & 1);
+                Check.due("LIDS " + lids + ", WELL " + well, echoes.back(well, 4, 3), 4 + 3 * wear);
+            }
+        }
+    }
+
     static void promise22LeastAndGreatest() {
         WellEchoes echoes = Check.land("LW10W12");
         Check.due("0 YEARS ago", echoes.back(0, 1, 0), 1);

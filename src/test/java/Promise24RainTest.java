@@ -155,6 +155,19 @@ public final class Promise24RainTest {
         rain(echoes, 0, 3, 7, 10);
     }
 
+    /** Neither their AGE nor their SLIPS count, nor where they lie in the row. */
+    static void promise24HoweverOldTheyAre() {
+        WellEchoes echoes = Check.land("LW10W10S0040S1130");
+        Edge.growOlder(echoes, 20);
+        rain(echoes, 0, 10, 1, 1);
+        rain(echoes, 1, 4, 3, 5);
+        WellEchoes slips = Check.land("LW12W10S0010S1193");
+        slips.sing(0, 1, 4, 0);
+        slips.year();
+        Edge.song(slips, 1, 0, 1, 3, 0, 1, 1);
+        rain(slips, 0, 2, 4, 5);
+    }
+
     /** A WELL that has others of its LAWS alone doesn't count. */
     static void promise24OtherLawsDoNotCount() {
         WellEchoes echoes = Check.land("LW10W10W10S0010S1110S1191S0230");

@@ -116,6 +116,38 @@ public final class Promise26RainsTest {
         }
     }
 
+    /** One that is gone by the YEAR has worn the other one, and then comes the flood. */
+    static void promise26TheYearIsNotBehindTheFlood() {
+        Check.due("5 is 3 by the YEAR", Check.land("LW10S0050S1010").rains(1, 10), 0);
+        Check.due("6 is 4 by the YEAR", Check.land("LW10S0060S1010").rains(1, 10), 1);
+        Check.due("7 of three is 4 by the YEAR", Check.land("LW10S0070S1010S2010").rains(1, 10), 1);
+        Check.due("6 of three is 3 by the YEAR", Check.land("LW10S0060S1010S2010").rains(1, 10), 0);
+    }
+
+    /** THE SEED by which a WELL alone is flooded in the first of so many times, and then no more. */
+    private static long floodedOnce(int times) {
+        for (long seed = 0; ; seed++) {
+            boolean isFit = (behind(seed, 1) >>> 33) % 10 < 5;
+            for (int step = 2; step <= times; step++) {
+                isFit &= (behind(seed, step) >>> 33) % 10 >= 5;
+            }
+            if (isFit) {
+                return seed;
+            }
+        }
+    }
+
+    /** The flood takes the second one; from then on the first one is alone. */
+    static void promise26GoneByTheFloodWearsNoOneNextYear() {
+        WellEchoes echoes = Check.land("LW10S0090S1050");
+        long seed = floodedOnce(5);
+        int[] due = {1, 1, 1, 1, 0};
+        for (int m = 1; m <= due.length; m++) {
+            echoes.seed(seed);
+            Check.due("rains(" + m + ", 5)", echoes.rains(m, 5), due[m - 1]);
+        }
+    }
+
     /** Those that a flood takes wear no one any more. */
     static void promise26GoneOnesWearNoOne() {
         WellEchoes echoes = Check.land("LW10S0090S1050");
