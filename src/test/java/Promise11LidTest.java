@@ -59,6 +59,21 @@ public final class Promise11LidTest {
         Check.due("THE SEED", echoes.seed(0), 77);
     }
 
+    /** From one SONG to eight: other LIDS stay, and so do SONGS. */
+    static void promise11HoweverManySongs() {
+        WellEchoes echoes = Check.land("LW10W10W10W10S0090");
+        for (int songs = 1; songs <= 8; songs++) {
+            Check.due("on", echoes.lid(3), 1);
+            Check.due("on", echoes.lid(2), 1);
+            Check.due("LIDS", echoes.about(4), 12);
+            Check.due("off", echoes.lid(3), 0);
+            Check.due("LIDS", echoes.about(4), 4);
+            Check.due("off", echoes.lid(2), 0);
+            Check.due("SONGS", echoes.about(1), songs);
+            echoes.sing(0, 1, songs, songs % 4);
+        }
+    }
+
     static void promise11AnActAlsoWhenTheRowIsFull() {
         WellEchoes echoes = Edge.State.FULL.make();
         Check.due("lid", echoes.lid(0), 1);
